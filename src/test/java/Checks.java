@@ -1,0 +1,116 @@
+import java.util.Objects;
+
+/** What the tests share: they tell each answer that is not the one that is due. */
+final class Checks {
+    static final Class<? extends RuntimeException> OUT_OF_BOUNDS = IndexOutOfBoundsException.class;
+    static final Class<? extends RuntimeException> ILLEGAL_ARGUMENT = IllegalArgumentException.class;
+    static final Class<? extends RuntimeException> ILLEGAL_STATE = IllegalStateException.class;
+    static final Class<? extends RuntimeException> UNSUPPORTED = UnsupportedOperationException.class;
+    static final Class<? extends RuntimeException> NO_ELEMENT = java.util.NoSuchElementException.class;
+    static final Class<? extends RuntimeException> ARITHMETIC = ArithmeticException.class;
+
+    private static int wrong;
+
+    interface Call {
+        Object answer();
+    }
+
+    private Checks() {
+    }
+
+    static void due(String what, Object got, Object want) {
+        if (!Objects.equals(got, want)) {
+            wrong++;
+            System.out.println(what + ": answered " + got + ", due is " + want);
+        }
+    }
+
+    static void thrown(String what, Class<? extends RuntimeException> want, Call call) {
+        due(what, result(call), want);
+    }
+
+    /** The answer of a call, or the class of the exception that it throws. */
+    static Object result(Call call) {
+        try {
+            return call.answer();
+        } catch (RuntimeException e) {
+            return e.getClass();
+        }
+    }
+
+    /** All that can be asked of the object, in less than four hundred calls. */
+    static String snapshot(PrecedentHall hall) {
+        StringBuilder all = new StringBuilder();
+        all.append(hall.today()).append(' ').append(hall.decisions()).append(' ');
+        all.append(hall.sanctionDays()).append(' ').append(hall.isConsistent()).append(' ');
+        all.append(result(hall::meanEvidence)).append(' ').append(result(hall::reversedShare));
+        for (char kind : "ogbr".toCharArray()) {
+            all.append(' ').append(kind).append(hall.count(kind));
+        }
+        addRules(hall, all);
+        addPeopleAndBots(hall, all);
+        addReports(hall, all);
+        return all.toString();
+    }
+
+    private static void addRules(PrecedentHall hall, StringBuilder all) {
+        for (int i = 0; isKnown(ask(hall, "rule", i)); i++) {
+            int rule = i;
+            all.append("\nrule");
+            for (int day : new int[] {1, 2, 5, 10, 1000}) {
+                all.append(' ').append(hall.isInForce(rule, day));
+            }
+        }
+    }
+
+    private static void addPeopleAndBots(PrecedentHall hall, StringBuilder all) {
+        for (int i = 0; isKnown(ask(hall, "user", i)); i++) {
+            int user = i;
+            int weight = hall.setWeight(user, 1);
+            hall.setWeight(user, weight);
+            all.append("\nuser ").append(weight).append(' ').append(hall.sanctions(user));
+            all.append(' ').append(result(() -> hall.sanctionedUntil(user)));
+        }
+        for (int i = 0; isKnown(ask(hall, "bot", i)); i++) {
+            all.append("\nbot ").append(hall.threshold(i));
+        }
+        int quorum = hall.setQuorum(1);
+        hall.setQuorum(quorum);
+        all.append("\nquorum ").append(quorum);
+    }
+
+    private static void addReports(PrecedentHall hall, StringBuilder all) {
+        for (int i = 0; isKnown(ask(hall, "report", i)); i++) {
+            int report = i;
+            all.append("\nreport ").append(hall.state(report));
+            all.append(' ').append(hall.weightFor(report)).append(' ');
+            all.append(hall.weightAgainst(report)).append(' ').append(hall.wasReversed(report));
+            all.append(' ').append(result(() -> hall.applying(report)));
+            all.append(' ').append(result(() -> hall.precedent(report)));
+            all.append(' ').append(result(() -> hall.outcome(report)));
+            all.append(' ').append(result(() -> hall.outcomeAnew(report)));
+            all.append(' ').append(result(() -> hall.isByBot(report)));
+            all.append(' ').append(hall.likeness(report, report));
+        }
+    }
+
+    private static Object ask(PrecedentHall hall, String what, int number) {
+        switch (what) {
+            case "rule": return result(() -> hall.isInForce(number, 0));
+            case "user": return result(() -> hall.sanctions(number));
+            case "bot": return result(() -> hall.threshold(number));
+            default: return result(() -> hall.state(number));
+        }
+    }
+
+    private static boolean isKnown(Object answer) {
+        return answer != OUT_OF_BOUNDS;
+    }
+
+    static void finish() {
+        if (wrong != 0) {
+            System.out.println(wrong + " answers are not as due");
+            System.exit(1);
+        }
+    }
+}
