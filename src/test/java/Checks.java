@@ -34,8 +34,15 @@ final class Checks {
         try {
             return call.answer();
         } catch (RuntimeException e) {
-            return e.getClass();
+            return isByMachine(e) ? "the machine's own " + e.getClass() : e.getClass();
         }
+    }
+
+    // What no throw statement threw: a list's or an array's, a division's, or that of a null.
+    private static boolean isByMachine(RuntimeException e) {
+        StackTraceElement[] trace = e.getStackTrace();
+        boolean isInLibrary = trace.length > 0 && trace[0].getClassName().matches("(java|jdk)\\..*");
+        return isInLibrary || "/ by zero".equals(e.getMessage());
     }
 
     /** All that can be asked of the object, in less than four hundred calls. */

@@ -127,6 +127,12 @@ public final class FiguresTest {
 
     private static void count() {
         PrecedentHall hall = court();
+        PrecedentHall single = court();
+        single.file(0, 1, 1, 60);
+        counted(single, "of one", 1, 0, 0, 0);
+        single.vote(0, 2, true);
+        single.decide(0);
+        counted(single, "of one decided", 0, 1, 0, 0);
         hall.addBot(0, 60);
         hall.addBot(2, 60);
         int first = hall.file(0, 1, 1, 60);
@@ -169,6 +175,9 @@ public final class FiguresTest {
         Checks.due("31 of three", hall.meanEvidence(), 100.0 / 3.0);
         hall.appeal(first);
         Checks.due("31 without the one under appeal", hall.meanEvidence(), 50.0);
+        PrecedentHall other = court();
+        fileAndDecide(other, 1, 7, true);
+        Checks.due("31 the first report counts", other.meanEvidence(), 7.0);
     }
 
     private static void reversedShare() {
@@ -226,7 +235,10 @@ public final class FiguresTest {
         PrecedentHall hall = court();
         hall.addBot(0, 100);
         Checks.due("34 at first", hall.isConsistent(), true);
-        int report = fileAndDecide(hall, 3, 0, true);
+        int report = hall.file(0, 1, 3, 0);
+        Checks.due("34 open", hall.isConsistent(), true);
+        hall.vote(report, 2, true);
+        hall.decide(report);
         int byBot = hall.file(0, 1, 3, 100);
         Checks.due("34 decided", hall.isConsistent(), true);
         hall.appeal(report);

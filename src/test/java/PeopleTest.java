@@ -136,6 +136,11 @@ public final class PeopleTest {
         hall.pass(95);
         fileAndDecide(hall, 2, true);
         Checks.due("10 later than day 1000", hall.sanctionedUntil(1), 1060);
+        int other = hall.file(1, 0, 1, 0);
+        hall.vote(other, 2, true);
+        hall.decide(other);
+        Checks.due("10 without those of others", hall.sanctionedUntil(0), 1003);
+        Checks.due("9 without those of others", hall.sanctions(0), 1);
     }
 
     private static void addBot() {

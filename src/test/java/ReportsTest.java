@@ -23,6 +23,7 @@ public final class ReportsTest {
         botsWithPrecedents();
         outcome();
         outcomeAnew();
+        outcomeAnewTwice();
         isByBot();
         appeal();
         wasReversed();
@@ -418,6 +419,22 @@ public final class ReportsTest {
         Checks.due("22 later weights and rules do not count", hall.outcomeAnew(third), 'i');
         Checks.thrown("22 no report", Checks.OUT_OF_BOUNDS, () -> hall.outcomeAnew(3));
         Checks.thrown("22 below", Checks.OUT_OF_BOUNDS, () -> hall.outcomeAnew(-1));
+    }
+
+    private static void outcomeAnewTwice() {
+        PrecedentHall hall = court();
+        int last = hall.file(0, 1, 3, 0);
+        int first = hall.file(0, 1, 3, 0);
+        hall.vote(first, 2, true);
+        hall.vote(first, 3, false);
+        hall.decide(first);
+        hall.setWeight(2, 9);
+        hall.vote(last, 2, true);
+        hall.decide(last);
+        for (int i = 0; i < 3; i++) {
+            Checks.due("22 a later decision is no precedent", hall.outcomeAnew(first), 'i');
+            Checks.due("22 with an earlier one against it", hall.outcomeAnew(last), 'g');
+        }
     }
 
     private static void isByBot() {

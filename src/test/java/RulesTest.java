@@ -87,6 +87,9 @@ public final class RulesTest {
         Checks.due("3 long after", hall.isInForce(0, 1000), false);
         Checks.due("3 a day after its first", hall.repeal(1, 6), 1);
         Checks.due("3 the last day", hall.repeal(2, 1000), 0);
+        hall.addRule(1, false, 1, 1, 1000);
+        hall.addRule(1, false, 1, 1, 1);
+        Checks.due("3 ahead of its repeal, a rule counts", hall.repeal(4, 4), 1);
         Checks.due("3 the last day but one", hall.isInForce(2, 999), true);
         Checks.due("3 the last day itself", hall.isInForce(2, 1000), false);
     }
