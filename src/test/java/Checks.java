@@ -45,14 +45,17 @@ final class Checks {
         return isInLibrary || "/ by zero".equals(e.getMessage());
     }
 
-    /** All that can be asked of the object, in less than four hundred calls. */
+    /** All that can be asked of the object, in less than three hundred and fifty calls. */
     static String snapshot(PrecedentHall hall) {
         StringBuilder all = new StringBuilder();
-        all.append(hall.today()).append(' ').append(hall.decisions()).append(' ');
-        all.append(hall.sanctionDays()).append(' ').append(hall.isConsistent()).append(' ');
-        all.append(result(hall::meanEvidence)).append(' ').append(result(hall::reversedShare));
+        add(all, hall.today());
+        add(all, hall.decisions());
+        add(all, hall.sanctionDays());
+        add(all, hall.isConsistent());
+        add(all, result(hall::meanEvidence));
+        add(all, result(hall::reversedShare));
         for (char kind : "ogbr".toCharArray()) {
-            all.append(' ').append(kind).append(hall.count(kind));
+            add(all, hall.count(kind));
         }
         addRules(hall, all);
         addPeopleAndBots(hall, all);
@@ -60,12 +63,21 @@ final class Checks {
         return all.toString();
     }
 
+    private static void add(StringBuilder all, Object answer) {
+        all.append(answer).append(' ');
+    }
+
     private static void addRules(PrecedentHall hall, StringBuilder all) {
+        int last = 1000;
+        int today = hall.today();
+        int[] days = {1, 2, Math.min(today + 1, last), Math.min(today + 5, last), last};
+        for (int day : days) {
+            add(all, hall.conflicts(day));
+        }
         for (int i = 0; isKnown(ask(hall, "rule", i)); i++) {
-            int rule = i;
-            all.append("\nrule");
-            for (int day : new int[] {1, 2, 5, 10, 1000}) {
-                all.append(' ').append(hall.isInForce(rule, day));
+            all.append("\nrule ");
+            for (int day : days) {
+                add(all, hall.isInForce(i, day));
             }
         }
     }
@@ -75,11 +87,14 @@ final class Checks {
             int user = i;
             int weight = hall.setWeight(user, 1);
             hall.setWeight(user, weight);
-            all.append("\nuser ").append(weight).append(' ').append(hall.sanctions(user));
-            all.append(' ').append(result(() -> hall.sanctionedUntil(user)));
+            all.append("\nuser ");
+            add(all, weight);
+            add(all, hall.sanctions(user));
+            add(all, result(() -> hall.sanctionedUntil(user)));
         }
         for (int i = 0; isKnown(ask(hall, "bot", i)); i++) {
-            all.append("\nbot ").append(hall.threshold(i));
+            all.append("\nbot ");
+            add(all, hall.threshold(i));
         }
         int quorum = hall.setQuorum(1);
         hall.setQuorum(quorum);
@@ -89,15 +104,17 @@ final class Checks {
     private static void addReports(PrecedentHall hall, StringBuilder all) {
         for (int i = 0; isKnown(ask(hall, "report", i)); i++) {
             int report = i;
-            all.append("\nreport ").append(hall.state(report));
-            all.append(' ').append(hall.weightFor(report)).append(' ');
-            all.append(hall.weightAgainst(report)).append(' ').append(hall.wasReversed(report));
-            all.append(' ').append(result(() -> hall.applying(report)));
-            all.append(' ').append(result(() -> hall.precedent(report)));
-            all.append(' ').append(result(() -> hall.outcome(report)));
-            all.append(' ').append(result(() -> hall.outcomeAnew(report)));
-            all.append(' ').append(result(() -> hall.isByBot(report)));
-            all.append(' ').append(hall.likeness(report, report));
+            all.append("\nreport ");
+            add(all, ask(hall, "report", report));
+            add(all, hall.weightFor(report));
+            add(all, hall.weightAgainst(report));
+            add(all, hall.wasReversed(report));
+            add(all, result(() -> hall.applying(report)));
+            add(all, result(() -> hall.precedent(report)));
+            add(all, result(() -> hall.outcome(report)));
+            add(all, result(() -> hall.outcomeAnew(report)));
+            add(all, result(() -> hall.isByBot(report)));
+            add(all, hall.likeness(report, 0));
         }
     }
 

@@ -4,41 +4,15 @@ public final class RefusalTest {
     }
 
     public static void main(String[] args) {
-        PrecedentHall refusing = court();
+        PrecedentHall refusing = Courts.busy();
         refuseAll(refusing);
-        Checks.due("all is as it was", Checks.snapshot(refusing), Checks.snapshot(court()));
+        Checks.due("all is as it was", Checks.snapshot(refusing), Checks.snapshot(Courts.busy()));
         goOn(refusing);
-        PrecedentHall other = court();
+        PrecedentHall other = Courts.busy();
         goOn(other);
         Checks.due("all goes on as it would", Checks.snapshot(refusing), Checks.snapshot(other));
         refuseInFullCourt();
         Checks.finish();
-    }
-
-    /** Report 0 is open, 1 decided by a bot, 2 under appeal, 3 decided anew, 4 without a rule. */
-    private static PrecedentHall court() {
-        PrecedentHall hall = new PrecedentHall();
-        for (int i = 0; i < 4; i++) {
-            hall.addUser(5 + i);
-        }
-        hall.addRule(0, true, 1, 10, 1);
-        hall.addRule(1, false, 1, 10, 4);
-        hall.repeal(1, 9);
-        hall.addBot(0, 60);
-        hall.pass(1);
-        hall.file(0, 1, 1, 10);
-        hall.vote(0, 3, true);
-        hall.file(0, 1, 1, 60);
-        for (int report = 2; report < 5; report++) {
-            hall.file(0, 2, report < 4 ? 3 : 2, 10);
-            hall.vote(report, 3, true);
-            hall.decide(report);
-        }
-        hall.appeal(2);
-        hall.appeal(3);
-        hall.decide(3);
-        hall.file(0, 1, 1, 10);
-        return hall;
     }
 
     private static void refuseAll(PrecedentHall hall) {
@@ -85,30 +59,13 @@ public final class RefusalTest {
         hall.decide(5);
     }
 
-    private static PrecedentHall fullCourt() {
-        PrecedentHall hall = new PrecedentHall();
-        for (int i = 0; i < 12; i++) {
-            hall.addRule(0, true, 1, 1, 1);
-        }
-        for (int i = 0; i < 8; i++) {
-            hall.addUser(1);
-        }
-        for (int i = 0; i < 4; i++) {
-            hall.addBot(1, 50);
-        }
-        for (int i = 0; i < 20; i++) {
-            hall.file(0, 1, 1, 100);
-        }
-        return hall;
-    }
-
     private static void refuseInFullCourt() {
-        PrecedentHall hall = fullCourt();
-        refuse("a rule too many", Checks.ILLEGAL_STATE, () -> hall.addRule(0, true, 1, 1, 1));
+        PrecedentHall hall = Courts.full();
+        refuse("a rule too many", Checks.ILLEGAL_STATE, () -> hall.addRule(0, true, 1, 1, 9));
         refuse("a user too many", Checks.ILLEGAL_STATE, () -> hall.addUser(1));
         refuse("a bot too many", Checks.ILLEGAL_STATE, () -> hall.addBot(1, 50));
         refuse("a report too many", Checks.ILLEGAL_STATE, () -> hall.file(0, 1, 2, 100));
         Checks.due("the full court is as it was", Checks.snapshot(hall),
-                Checks.snapshot(fullCourt()));
+                Checks.snapshot(Courts.full()));
     }
 }
