@@ -24,6 +24,7 @@ public final class DecisionsEdgesTest {
         outcomeAnewByTurns();
         outcomeAnewOfBots();
         outcomeAnewOfAll();
+        outcomeAnewAgain();
         isByBotNone();
         appealNoReport();
         appealTwice();
@@ -188,6 +189,13 @@ public final class DecisionsEdgesTest {
         hall.appeal(2);
         hall.decide(2);
         Checks.due("19 the new decision is the last", hall.precedent(3), 2);
+        PrecedentHall likeness = Courts.small();
+        for (int facts : new int[] {3, 11, 11 + 16}) {
+            likeness.vote(likeness.file(0, 1, facts, 0), 2, true);
+        }
+        likeness.decide(1);
+        likeness.decide(0);
+        Checks.due("19 the likeness ahead of the turn", likeness.precedent(2), 1);
     }
 
     // ---- promise 20
@@ -395,6 +403,19 @@ public final class DecisionsEdgesTest {
             int report = i;
             Checks.due("22 the same of " + report, Checks.result(() -> hall.outcomeAnew(report)),
                     Checks.result(() -> hall.outcome(report)));
+        }
+    }
+
+    /** What was found the time before is no precedent of the cases that are decided anew. */
+    private static void outcomeAnewAgain() {
+        PrecedentHall hall = scales();
+        Checks.due("22 the first, without a precedent", weighed(hall, 3, 3, 0), 'g');
+        weighed(hall, 3, 3, 8);
+        weighed(hall, 3, 3, 8);
+        for (int time = 0; time < 3; time++) {
+            Checks.due("22 the first of three", hall.outcomeAnew(0), 'g');
+            Checks.due("22 the second of three", hall.outcomeAnew(1), 'i');
+            Checks.due("34 asked again", hall.isConsistent(), true);
         }
     }
 

@@ -224,6 +224,11 @@ public final class PeopleEdgesTest {
         Checks.due("10 the longest of several", several.sanctionedUntil(1), 6);
         several.appeal(1);
         Checks.due("10 without the longest", several.sanctionedUntil(1), 3);
+        several.file(0, 3, 1, 0);
+        several.vote(3, 2, true);
+        several.decide(3);
+        Checks.due("10 without the longer one of another", several.sanctionedUntil(1), 3);
+        Checks.due("10 the one of the other", several.sanctionedUntil(3), 6);
     }
 
     private static void sanctionedUntilLate() {

@@ -226,6 +226,18 @@ public final class RulesEdgesTest {
             hall.pass(8);
             return hall;
         }, hall -> hall.repeal(0, 9));
+        for (int day : new int[] {6, 8, 1000}) {
+            Edge.answers("3 told again, the day ahead of the repeal", true, () -> repealed(8),
+                    hall -> {
+                        Checks.result(() -> hall.repeal(0, day));
+                        return hall.isInForce(0, 7);
+                    });
+            Edge.answers("3 told again, the day of the repeal", false, () -> repealed(8),
+                    hall -> {
+                        Checks.result(() -> hall.repeal(0, day));
+                        return hall.isInForce(0, 8);
+                    });
+        }
         Edge.answers("3 a refused day is not told", 0, RulesEdgesTest::oneRule, hall -> {
             Checks.result(() -> hall.repeal(0, 5));
             return hall.repeal(0, 6);
