@@ -4,8 +4,10 @@ import java.lang.reflect.Method;
 import java.lang.reflect.Modifier;
 import java.nio.file.Files;
 import java.nio.file.Path;
+import java.util.ArrayList;
 import java.util.Arrays;
 import java.util.HashSet;
+import java.util.List;
 import java.util.Set;
 import java.util.TreeSet;
 import java.util.regex.Matcher;
@@ -40,6 +42,8 @@ public final class FaceTest {
             privateNames(inner, names);
         }
         source();
+        throwsAndCalls();
+        sizes();
         Checks.finish();
     }
 
@@ -102,5 +106,95 @@ public final class FaceTest {
         Checks.due("imports", imports, Set.of("import java.util.ArrayList;",
                 "import java.util.NoSuchElementException;"));
         Checks.due("signs 1 to 127", text.chars().allMatch(sign -> sign > 0 && sign < 128), true);
+    }
+
+    /** Rules 4 and 6: each throw is one of the forms, each call is an own one or of the library. */
+    private static void throwsAndCalls() throws Exception {
+        String text = Files.readString(SOURCE);
+        Pattern form = Pattern.compile("throw new (IllegalStateException|IllegalArgumentException"
+                + "|IndexOutOfBoundsException|ArithmeticException|UnsupportedOperationException"
+                + "|NoSuchElementException|RuntimeException)\\((\"[^\"+]*\")?\\);");
+        Checks.due("throws of another form", number(text, Pattern.compile("\\bthrow\\b")),
+                number(text, form));
+        Set<String> own = new HashSet<>(Set.of("add", "get", "size", "max", "min", "bitCount"));
+        for (Class<?> type : classes()) {
+            for (Method method : type.getDeclaredMethods()) {
+                own.add(method.getName());
+            }
+            Checks.due(type + " has its own toString", own.contains("toString"), false);
+        }
+        Matcher call = Pattern.compile("\\.(\\w+)\\(").matcher(text);
+        while (call.find()) {
+            Checks.due("a call of " + call.group(1), own.contains(call.group(1)), true);
+        }
+    }
+
+    private static int number(String text, Pattern sought) {
+        return (int) sought.matcher(text).results().count();
+    }
+
+    private static List<Class<?>> classes() {
+        List<Class<?>> all = new ArrayList<>(List.of(PrecedentHall.class.getDeclaredClasses()));
+        all.add(PrecedentHall.class);
+        return all;
+    }
+
+    /** Rules 3, 5 and 11: the kinds of the fields, and how many there may be of each thing. */
+    private static void sizes() throws Exception {
+        List<Class<?>> classes = classes();
+        Checks.due("more than 12 classes", classes.size() > 12, false);
+        for (Class<?> type : classes) {
+            int fields = 0;
+            for (Field field : type.getDeclaredFields()) {
+                boolean isStatic = Modifier.isStatic(field.getModifiers());
+                boolean isFinal = Modifier.isFinal(field.getModifiers());
+                Checks.due(field + " is static and not final", isStatic && !isFinal, false);
+                Checks.due(field + " is of a kind that is taken",
+                        isTaken(field.getType(), isStatic, classes), true);
+                fields += isStatic ? 0 : 1;
+            }
+            Checks.due("more than 20 fields of " + type, fields > 20, false);
+            for (Method method : type.getDeclaredMethods()) {
+                Checks.due("more than 7 parameters of " + method,
+                        method.getParameterCount() > 7, false);
+            }
+            for (Constructor<?> constructor : type.getDeclaredConstructors()) {
+                Checks.due("more than 7 parameters of " + constructor,
+                        constructor.getParameterCount() > 7, false);
+            }
+        }
+        methodsAreShort();
+    }
+
+    private static boolean isTaken(Class<?> type, boolean isStatic, List<Class<?>> classes) {
+        Set<Class<?>> constants = Set.of(int.class, long.class, boolean.class, char.class,
+                String.class, int[].class, long[].class, char[].class, byte[].class);
+        return constants.contains(type)
+                || !isStatic && (classes.contains(type) || type == ArrayList.class);
+    }
+
+    /** A method begins in a line with its name and brackets, and ends with a brace below it. */
+    private static void methodsAreShort() throws Exception {
+        int begun = -1;
+        String end = "";
+        int found = 0;
+        List<String> rows = Files.readAllLines(SOURCE);
+        for (int i = 0; i < rows.size(); i++) {
+            String row = rows.get(i);
+            boolean isHead = row.matches("( {4}| {8})(\\w[^=;]*|)\\w+\\([^=;]*");
+            if (begun < 0 && isHead && !row.contains("return ")) {
+                begun = i;
+                end = row.startsWith("        ") ? "        }" : "    }";
+            } else if (begun >= 0 && row.equals(end)) {
+                Checks.due("line " + (begun + 1) + ", longer than 60 lines", i - begun > 60, false);
+                begun = -1;
+                found++;
+            }
+        }
+        int declared = 0;
+        for (Class<?> type : classes()) {
+            declared += type.getDeclaredMethods().length + type.getDeclaredConstructors().length;
+        }
+        Checks.due("methods and constructors that were looked at", found, declared);
     }
 }
